@@ -1,16 +1,12 @@
 /** Counts the answers that are not due and prints each; a test ends with {@link #end}. */
 final class Checks {
-    /** A call of the face; its answer as a number, whatever it is for a call without one. */
-    interface Call {
-        long answer();
-    }
-
-    /** A call of the face that answers nothing. */
+    /** A call of the face that answers nothing, or whose answer is not looked at. */
     interface Deed {
         void happen();
     }
 
     private final String test;
+    private String sentence = "";
     private int made;
     private int wrong;
 
@@ -18,27 +14,62 @@ final class Checks {
         this.test = test;
     }
 
+    /** What is looked at from here on is due by this sentence of the document. */
+    void by(String sentence) {
+        this.sentence = " (" + sentence + ")";
+    }
+
     void due(String what, long got, long want) {
-        made++;
         if (got != want) {
-            wrong++;
-            System.out.println(test + ": " + what + " answered " + got + ", due is " + want);
+            print(what + " answered " + got + ", due is " + want);
         }
+        made++;
+    }
+
+    void due(String what, boolean holds) {
+        if (!holds) {
+            print(what + " does not hold");
+        }
+        made++;
     }
 
     void due(String what, String got, String want) {
-        made++;
         if (!got.equals(want)) {
-            wrong++;
-            System.out.println(test + ": " + what + " is\n  " + got + "\n, due is\n  " + want);
+            print(what + " is\n  " + got + "\n, due is\n  " + want);
         }
+        made++;
     }
 
-    /** The call throws just this exception, and the object is as it was. */
-    void refused(TableChanger x, String what, Class<? extends RuntimeException> due, Deed deed) {
-        String before = state(x);
-        due(what + " throws", thrownBy(deed), due.getName());
-        due("the state behind " + what, state(x), before);
+    private void print(String fault) {
+        wrong++;
+        System.out.println(test + sentence + ": " + fault);
+    }
+
+    /** The call throws just this exception; RefusalsTest looks whether all is as it was then. */
+    void refused(String what, Class<? extends RuntimeException> exception, Deed deed) {
+        due(what + " throws", thrownBy(deed), exception.getName());
+    }
+
+    void dueShadow(TableChanger x, int key, int first, int second, int third) {
+        due("shadow(" + key + ", 0)", x.shadow(key, 0), first);
+        due("shadow(" + key + ", 1)", x.shadow(key, 1), second);
+        due("shadow(" + key + ", 2)", x.shadow(key, 2), third);
+    }
+
+    void dueNoShadow(TableChanger x, int key) {
+        dueShadow(x, key, TableChanger.NONE, TableChanger.NONE, TableChanger.NONE);
+    }
+
+    void dueSums(TableChanger x, int first, int second, int third) {
+        due("sum(0)", x.sum(0), first);
+        due("sum(1)", x.sum(1), second);
+        due("sum(2)", x.sum(2), third);
+    }
+
+    void dueSumsAtOnce(TableChanger x, int first, int second, int third) {
+        due("sumAtOnce(0)", x.sumAtOnce(0), first);
+        due("sumAtOnce(1)", x.sumAtOnce(1), second);
+        due("sumAtOnce(2)", x.sumAtOnce(2), third);
     }
 
     static String thrownBy(Deed deed) {
@@ -50,7 +81,7 @@ final class Checks {
         return "nothing";
     }
 
-    /** The answers of all questions, in one text. */
+    /** The answers of all questions, in one text: 212 of the 512 calls an object is used for. */
     static String state(TableChanger x) {
         StringBuilder text = new StringBuilder();
         text.append("phase ").append(x.phase()).append(" mark ").append(x.mark());

@@ -8,12 +8,12 @@ import java.util.TreeSet;
 
 /**
  * Long runs of calls, the same ones each time, against a plain model of the document that keeps
- * its tables in maps: each call answers or throws as the model does, and so do all questions
- * behind it. A run makes fewer than 512 changing calls.
+ * its tables in maps: each call answers or throws as the model does. A run makes up to 300 calls,
+ * questions among them, and then all questions are asked: 512 calls at most.
  */
 public final class ModelTest {
-    private static final int RUNS = 400;
-    private static final int CALLS = 500;
+    private static final int RUNS = 6000;
+    private static final int MOST_CALLS = 300;
 
     private ModelTest() {
     }
@@ -33,12 +33,13 @@ public final class ModelTest {
         // Few keys make clients meet, many fill the table; both are needed.
         int keys = run % 3 == 0 ? 40 : 4 + run % 7;
         int eager = run % 5;
-        for (int call = 0; call < CALLS; call++) {
-            int[] c = nextCall(random, keys, eager);
-            String name = "run " + run + ", call " + call + " " + Arrays.toString(c);
-            checks.due(name, answerOf(x, c), answerOf(model, c));
-            checks.due(name + ": questions", Checks.state(x), model.state());
+        for (int call = 0; call < run % MOST_CALLS; call++) {
+            int[] c = random.nextInt(3) == 0 ? nextQuestion(random, keys)
+                    : nextCall(random, keys, eager);
+            checks.due("run " + run + ", call " + call + " " + Arrays.toString(c),
+                    answerOf(x, c), answerOf(model, c));
         }
+        checks.due("run " + run + ": all questions", Checks.state(x), model.state());
     }
 
     /** A call as a number and three arguments, mostly within their ranges. */
@@ -68,6 +69,10 @@ public final class ModelTest {
         }
     }
 
+    private static int[] nextQuestion(Random random, int keys) {
+        return new int[] {11 + random.nextInt(11), key(random, keys), random.nextInt(3), 0};
+    }
+
     private static int off(Random random, int value) {
         int[] wrong = {-1, 3, 41, 101, 1000, 1001, Integer.MIN_VALUE, Integer.MAX_VALUE};
         return random.nextInt(40) == 0 ? wrong[random.nextInt(wrong.length)] : value;
@@ -95,10 +100,27 @@ public final class ModelTest {
                 case 7: return "" + x.cutOver(c[1]);
                 case 8: x.undo(); return "done";
                 case 9: return "" + x.finish();
-                default: return "" + x.giveUp();
+                case 10: return "" + x.giveUp();
+                default: return questionOf(x, c);
             }
         } catch (RuntimeException e) {
             return e.getClass().getName();
+        }
+    }
+
+    private static String questionOf(TableChanger x, int[] c) {
+        switch (c[0]) {
+            case 11: return "" + x.row(c[1]);
+            case 12: return "" + x.rows();
+            case 13: return "" + x.phase();
+            case 14: return "" + x.mark();
+            case 15: return "" + x.notes();
+            case 16: return "" + x.shadow(c[1], c[2]);
+            case 17: return "" + x.shadowRows();
+            case 18: return "" + x.isRefused(c[1]);
+            case 19: return "" + x.behind();
+            case 20: return "" + x.sum(c[2]);
+            default: return "" + x.sumAtOnce(c[2]);
         }
     }
 
@@ -115,10 +137,27 @@ public final class ModelTest {
                 case 7: return model.cutOver(c[1]);
                 case 8: return model.undo();
                 case 9: return model.finish();
-                default: return model.giveUp();
+                case 10: return model.giveUp();
+                default: return questionOf(model, c);
             }
         } catch (RuntimeException e) {
             return e.getClass().getName();
+        }
+    }
+
+    private static String questionOf(Model model, int[] c) {
+        switch (c[0]) {
+            case 11: return "" + model.row(c[1]);
+            case 12: return "" + model.seen().size();
+            case 13: return "" + model.phase;
+            case 14: return "" + model.mark();
+            case 15: return "" + model.notes.size();
+            case 16: return "" + model.shadow(c[1], c[2]);
+            case 17: return "" + model.shadow.size();
+            case 18: return "" + model.isRefused(c[1]);
+            case 19: return "" + model.behind();
+            case 20: return "" + Model.sum(model.shadow, c[2]);
+            default: return "" + Model.sum(model.atOnce(), c[2]);
         }
     }
 
@@ -324,11 +363,30 @@ public final class ModelTest {
             return rows.values().stream().mapToInt(row -> row[column]).sum();
         }
 
+        private int row(int key) {
+            needKey(key);
+            int[] row = seen().get(key);
+            return row == null ? -1 : 1000 * row[0] + row[1];
+        }
+
+        private int mark() {
+            return phase == TableChanger.IDLE ? -1 : mark;
+        }
+
+        private int shadow(int key, int column) {
+            needKey(key);
+            return shadow.containsKey(key) ? shadow.get(key)[column] : -1;
+        }
+
+        private boolean isRefused(int key) {
+            needKey(key);
+            return refused.contains(key);
+        }
+
         /** In the form of Checks.state. */
         String state() {
             StringBuilder text = new StringBuilder();
-            text.append("phase ").append(phase).append(" mark ");
-            text.append(phase == TableChanger.IDLE ? TableChanger.NONE : mark);
+            text.append("phase ").append(phase).append(" mark ").append(mark());
             text.append(" notes ").append(notes.size()).append(" behind ").append(behind());
             text.append(" rows ").append(seen().size());
             text.append(" shadowRows ").append(shadow.size());
@@ -336,15 +394,11 @@ public final class ModelTest {
                 text.append(" sum ").append(sum(shadow, column));
                 text.append('/').append(sum(atOnce(), column));
             }
-            TreeMap<Integer, int[]> seen = seen();
             for (int key = 0; key < 40; key++) {
-                int[] row = seen.get(key);
-                int[] altered = shadow.getOrDefault(key, new int[] {-1, -1, -1});
-                text.append("; ").append(key).append(": ");
-                text.append(row == null ? -1 : 1000 * row[0] + row[1]);
-                text.append(refused.contains(key) ? " refused" : "");
-                for (int value : altered) {
-                    text.append(' ').append(value);
+                text.append("; ").append(key).append(": ").append(row(key));
+                text.append(isRefused(key) ? " refused" : "");
+                for (int column = 0; column < 3; column++) {
+                    text.append(' ').append(shadow(key, column));
                 }
             }
             return text.toString();

@@ -1,12 +1,10 @@
-import java.util.NoSuchElementException;
-
 /** The promises 1 to 23 one by one: ordinary inputs, the edges and wrong inputs. */
 public final class PromisesTest {
     private static final Checks CHECKS = new Checks("PromisesTest");
-    private static final Class<IndexOutOfBoundsException> INDEX = IndexOutOfBoundsException.class;
-    private static final Class<IllegalArgumentException> ARGUMENT = IllegalArgumentException.class;
-    private static final Class<IllegalStateException> STATE = IllegalStateException.class;
-    private static final Class<NoSuchElementException> ELEMENT = NoSuchElementException.class;
+    private static final Class<IndexOutOfBoundsException> INDEX = Made.INDEX;
+    private static final Class<IllegalArgumentException> ARGUMENT = Made.ARGUMENT;
+    private static final Class<IllegalStateException> STATE = Made.STATE;
+    private static final Class<java.util.NoSuchElementException> ELEMENT = Made.ELEMENT;
     private static final int[] NO_KEYS = {-1, 40, Integer.MIN_VALUE, Integer.MAX_VALUE};
     private static final int[] NO_COLUMNS = {-1, 3, Integer.MIN_VALUE, Integer.MAX_VALUE};
     private static final int[] NO_VALUES = {-1, 1000, Integer.MIN_VALUE, Integer.MAX_VALUE};
@@ -38,7 +36,6 @@ public final class PromisesTest {
         promise13And14WhatClientsSee();
         promise15And16PhaseAndMark();
         promise17Notes();
-        promise17MostNotesOfAnObject();
         promise18And19Shadow();
         promise20IsRefused();
         promise21Behind();
@@ -55,40 +52,30 @@ public final class PromisesTest {
     }
 
     private static void due(String what, boolean got) {
-        CHECKS.due(what, got ? 1 : 0, 1);
+        CHECKS.due(what, got);
     }
 
-    private static void refused(TableChanger x, String what,
-            Class<? extends RuntimeException> exception, Checks.Deed deed) {
-        CHECKS.refused(x, what, exception, deed);
+    private static void refused(String what, Class<? extends RuntimeException> exception,
+            Checks.Deed deed) {
+        CHECKS.refused(what, exception, deed);
     }
 
     /** A change behind its last key, with rows 10: (123, 45), 11: (5, 700), chunk 40. */
     private static TableChanger copied(int alteration, int parameter) {
-        TableChanger x = new TableChanger();
-        x.insert(10, 123, 45);
-        x.insert(11, 5, 700);
-        x.setPace(40, 10);
-        x.start(alteration, parameter);
-        x.tick(0);
-        return x;
+        return Made.copied(Made.table(10, 123, 45, 11, 5, 700), alteration, parameter);
     }
 
     /** The same, cut over. */
     private static TableChanger cut(int alteration, int parameter) {
-        TableChanger x = copied(alteration, parameter);
-        x.cutOver(0);
-        return x;
+        return Made.cut(Made.table(10, 123, 45, 11, 5, 700), alteration, parameter);
     }
 
     private static void dueShadow(TableChanger x, int key, int first, int second, int third) {
-        due("shadow(" + key + ", 0)", x.shadow(key, 0), first);
-        due("shadow(" + key + ", 1)", x.shadow(key, 1), second);
-        due("shadow(" + key + ", 2)", x.shadow(key, 2), third);
+        CHECKS.dueShadow(x, key, first, second, third);
     }
 
     private static void dueNoShadow(TableChanger x, int key) {
-        dueShadow(x, key, TableChanger.NONE, TableChanger.NONE, TableChanger.NONE);
+        CHECKS.dueNoShadow(x, key);
     }
 
     // ---- a new object
@@ -131,29 +118,29 @@ public final class PromisesTest {
         due("rows", x.rows(), 3);
         due("no notes when IDLE", x.notes(), 0);
         for (int key : NO_KEYS) {
-            refused(x, "insert at no key", INDEX, () -> x.insert(key, 1, 1));
-            refused(x, "insert at no key, a wrong", INDEX, () -> x.insert(key, -1, 1000));
+            refused("insert at no key", INDEX, () -> x.insert(key, 1, 1));
+            refused("insert at no key, a wrong", INDEX, () -> x.insert(key, -1, 1000));
         }
         for (int value : NO_VALUES) {
-            refused(x, "insert, a wrong", ARGUMENT, () -> x.insert(1, value, 1));
-            refused(x, "insert, b wrong", ARGUMENT, () -> x.insert(1, 1, value));
-            refused(x, "insert again, a wrong", ARGUMENT, () -> x.insert(0, value, 1));
+            refused("insert, a wrong", ARGUMENT, () -> x.insert(1, value, 1));
+            refused("insert, b wrong", ARGUMENT, () -> x.insert(1, 1, value));
+            refused("insert again, a wrong", ARGUMENT, () -> x.insert(0, value, 1));
         }
-        refused(x, "insert again", STATE, () -> x.insert(0, 1, 1));
-        refused(x, "insert the same again", STATE, () -> x.insert(39, 999, 999));
+        refused("insert again", STATE, () -> x.insert(0, 1, 1));
+        refused("insert the same again", STATE, () -> x.insert(39, 999, 999));
     }
 
     private static void promise2InsertWhileCopyingAndCut() {
         TableChanger x = copied(TableChanger.NARROW, 100);
-        refused(x, "insert where a refused row is seen", STATE, () -> x.insert(11, 1, 1));
+        refused("insert where a refused row is seen", STATE, () -> x.insert(11, 1, 1));
         x.insert(12, 1, 101);
         due("a row that does not fit is written while COPYING", x.row(12), 1101);
         due("it is noted", x.notes(), 1);
         due("it is not brought yet", !x.isRefused(12));
         x.cutOver(1);
-        refused(x, "insert what does not fit, CUT", ARGUMENT, () -> x.insert(13, 1, 101));
-        refused(x, "insert what does not fit where a row is", ARGUMENT, () -> x.insert(10, 1, 101));
-        refused(x, "insert where clients see a row, CUT", STATE, () -> x.insert(10, 1, 100));
+        refused("insert what does not fit, CUT", ARGUMENT, () -> x.insert(13, 1, 101));
+        refused("insert what does not fit where a row is", ARGUMENT, () -> x.insert(10, 1, 101));
+        refused("insert where clients see a row, CUT", STATE, () -> x.insert(10, 1, 100));
         x.insert(13, 1, 100);
         due("what just fits is written", x.row(13), 1100);
         dueShadow(x, 13, 1, 100, 0);
@@ -177,15 +164,15 @@ public final class PromisesTest {
         due("rows", x.rows(), 2);
         due("no notes when IDLE", x.notes(), 0);
         for (int key : NO_KEYS) {
-            refused(x, "update of no key", INDEX, () -> x.update(key, 1, 1));
-            refused(x, "update of no key, b wrong", INDEX, () -> x.update(key, 1, 1000));
+            refused("update of no key", INDEX, () -> x.update(key, 1, 1));
+            refused("update of no key, b wrong", INDEX, () -> x.update(key, 1, 1000));
         }
         for (int value : NO_VALUES) {
-            refused(x, "update, a wrong", ARGUMENT, () -> x.update(0, value, 1));
-            refused(x, "update, b wrong", ARGUMENT, () -> x.update(0, 1, value));
-            refused(x, "update of no row, a wrong", ARGUMENT, () -> x.update(5, value, 1));
+            refused("update, a wrong", ARGUMENT, () -> x.update(0, value, 1));
+            refused("update, b wrong", ARGUMENT, () -> x.update(0, 1, value));
+            refused("update of no row, a wrong", ARGUMENT, () -> x.update(5, value, 1));
         }
-        refused(x, "update of no row", ELEMENT, () -> x.update(5, 1, 1));
+        refused("update of no row", ELEMENT, () -> x.update(5, 1, 1));
     }
 
     private static void promise3UpdateWhileCopyingAndCut() {
@@ -199,9 +186,9 @@ public final class PromisesTest {
         x.update(10, 9, 8);
         due("notes", x.notes(), 3);
         x.cutOver(3);
-        refused(x, "update to what does not fit", ARGUMENT, () -> x.update(10, 1, 101));
-        refused(x, "update of an unseen row", ELEMENT, () -> x.update(11, 1, 100));
-        refused(x, "update of an unseen row to what does not fit", ARGUMENT,
+        refused("update to what does not fit", ARGUMENT, () -> x.update(10, 1, 101));
+        refused("update of an unseen row", ELEMENT, () -> x.update(11, 1, 100));
+        refused("update of an unseen row to what does not fit", ARGUMENT,
                 () -> x.update(11, 1, 101));
         x.update(10, 7, 100);
         due("row", x.row(10), 7100);
@@ -215,15 +202,15 @@ public final class PromisesTest {
         x.insert(39, 999, 998);
         x.insert(3, 7, 5);
         for (int key : NO_KEYS) {
-            refused(x, "delete of no key", INDEX, () -> x.delete(key));
+            refused("delete of no key", INDEX, () -> x.delete(key));
         }
-        refused(x, "delete of no row", ELEMENT, () -> x.delete(1));
+        refused("delete of no row", ELEMENT, () -> x.delete(1));
         due("delete(0)", x.delete(0), 0);
         due("delete(39)", x.delete(39), 999998);
         due("rows", x.rows(), 1);
         due("row(39)", x.row(39), TableChanger.NONE);
         due("no notes when IDLE", x.notes(), 0);
-        refused(x, "delete again", ELEMENT, () -> x.delete(0));
+        refused("delete again", ELEMENT, () -> x.delete(0));
         x.insert(0, 4, 4);
         due("insert behind delete", x.row(0), 4004);
     }
@@ -235,7 +222,7 @@ public final class PromisesTest {
         due("and refused until it is brought", x.isRefused(11));
         x.insert(11, 5, 700);
         x.cutOver(2);
-        refused(x, "delete of an unseen row", ELEMENT, () -> x.delete(11));
+        refused("delete of an unseen row", ELEMENT, () -> x.delete(11));
         due("delete when CUT", x.delete(10), 123045);
         dueNoShadow(x, 10);
         due("no notes when CUT", x.notes(), 0);
@@ -250,16 +237,16 @@ public final class PromisesTest {
         x.insert(0, 1, 2);
         x.insert(5, 3, 4);
         for (int key : NO_KEYS) {
-            refused(x, "rekey of no key", INDEX, () -> x.rekey(key, 1));
-            refused(x, "rekey to no key", INDEX, () -> x.rekey(0, key));
-            refused(x, "rekey of no key to itself", INDEX, () -> x.rekey(key, key));
-            refused(x, "rekey of no row to no key", INDEX, () -> x.rekey(9, key));
+            refused("rekey of no key", INDEX, () -> x.rekey(key, 1));
+            refused("rekey to no key", INDEX, () -> x.rekey(0, key));
+            refused("rekey of no key to itself", INDEX, () -> x.rekey(key, key));
+            refused("rekey of no row to no key", INDEX, () -> x.rekey(9, key));
         }
-        refused(x, "rekey to itself", ARGUMENT, () -> x.rekey(0, 0));
-        refused(x, "rekey of no row to itself", ARGUMENT, () -> x.rekey(9, 9));
-        refused(x, "rekey of no row", ELEMENT, () -> x.rekey(9, 8));
-        refused(x, "rekey of no row to a row", ELEMENT, () -> x.rekey(9, 0));
-        refused(x, "rekey to a row", STATE, () -> x.rekey(0, 5));
+        refused("rekey to itself", ARGUMENT, () -> x.rekey(0, 0));
+        refused("rekey of no row to itself", ARGUMENT, () -> x.rekey(9, 9));
+        refused("rekey of no row", ELEMENT, () -> x.rekey(9, 8));
+        refused("rekey of no row to a row", ELEMENT, () -> x.rekey(9, 0));
+        refused("rekey to a row", STATE, () -> x.rekey(0, 5));
         x.rekey(0, 39);
         due("row at the other key", x.row(39), 1002);
         due("none at the first", x.row(0), TableChanger.NONE);
@@ -277,7 +264,7 @@ public final class PromisesTest {
         due("refused as before", x.isRefused(11) && !x.isRefused(12));
         x.cutOver(2);
         due("refused behind it", !x.isRefused(11) && x.isRefused(12));
-        refused(x, "rekey of an unseen row", ELEMENT, () -> x.rekey(12, 1));
+        refused("rekey of an unseen row", ELEMENT, () -> x.rekey(12, 1));
         x.rekey(10, 12);
         due("an unseen row gives way", x.row(12), 123045);
         dueShadow(x, 12, 123, 45, 0);
@@ -288,7 +275,7 @@ public final class PromisesTest {
         due("no notes when CUT", x.notes(), 0);
         due("rows", x.rows(), 1);
         x.insert(3, 1, 1);
-        refused(x, "rekey to a seen row", STATE, () -> x.rekey(2, 3));
+        refused("rekey to a seen row", STATE, () -> x.rekey(2, 3));
         due("behind", x.behind(), 0);
     }
 
@@ -318,22 +305,22 @@ public final class PromisesTest {
         x.insert(0, 1, 1);
         int[] noAlterations = {-1, 3, Integer.MIN_VALUE, Integer.MAX_VALUE};
         for (int alteration : noAlterations) {
-            refused(x, "start of no alteration", ARGUMENT, () -> x.start(alteration, 0));
+            refused("start of no alteration", ARGUMENT, () -> x.start(alteration, 0));
         }
         for (int parameter : NO_VALUES) {
-            refused(x, "start, parameter wrong", ARGUMENT, () -> x.start(0, parameter));
+            refused("start, parameter wrong", ARGUMENT, () -> x.start(0, parameter));
         }
         x.start(TableChanger.SPLIT, 999);
         due("phase", x.phase(), TableChanger.COPYING);
         due("mark", x.mark(), 0);
         due("notes", x.notes(), 0);
         due("the shadow is empty", x.shadowRows(), 0);
-        refused(x, "start again", STATE, () -> x.start(1, 1));
-        refused(x, "start again, alteration wrong", ARGUMENT, () -> x.start(3, 1));
+        refused("start again", STATE, () -> x.start(1, 1));
+        refused("start again, alteration wrong", ARGUMENT, () -> x.start(3, 1));
         x.setPace(40, 0);
         x.tick(0);
         x.cutOver(0);
-        refused(x, "start when CUT", STATE, () -> x.start(1, 1));
+        refused("start when CUT", STATE, () -> x.start(1, 1));
         x.finish();
         x.start(TableChanger.NARROW, 0);
         due("a change behind a change: mark", x.mark(), 0);
@@ -380,18 +367,18 @@ public final class PromisesTest {
         TableChanger x = new TableChanger();
         int[] noChunks = {0, -1, 41, Integer.MIN_VALUE, Integer.MAX_VALUE};
         for (int chunk : noChunks) {
-            refused(x, "setPace, chunk wrong", ARGUMENT, () -> x.setPace(chunk, 5));
+            refused("setPace, chunk wrong", ARGUMENT, () -> x.setPace(chunk, 5));
         }
         int[] noLags = {-1, 101, Integer.MIN_VALUE, Integer.MAX_VALUE};
         for (int lag : noLags) {
-            refused(x, "setPace, lag wrong", ARGUMENT, () -> x.setPace(5, lag));
+            refused("setPace, lag wrong", ARGUMENT, () -> x.setPace(5, lag));
         }
         x.start(TableChanger.SPLIT, 0);
         due("the chunk is as it was", x.tick(0), 8);
         x.setPace(1, 0);
         due("lag above 0", x.tick(1), 0);
         due("chunk 1", x.tick(0), 1);
-        refused(x, "setPace, lag wrong", ARGUMENT, () -> x.setPace(40, 101));
+        refused("setPace, lag wrong", ARGUMENT, () -> x.setPace(40, 101));
         due("still chunk 1", x.tick(0), 1);
         due("still lag 0", x.tick(1), 0);
         x.setPace(40, 100);
@@ -407,9 +394,9 @@ public final class PromisesTest {
 
     private static void promise8TickCopies() {
         TableChanger x = new TableChanger();
-        refused(x, "tick when IDLE", STATE, () -> x.tick(0));
+        refused("tick when IDLE", STATE, () -> x.tick(0));
         for (int lag : NO_COUNTS) {
-            refused(x, "tick when IDLE, lag wrong", ARGUMENT, () -> x.tick(lag));
+            refused("tick when IDLE, lag wrong", ARGUMENT, () -> x.tick(lag));
         }
         for (int key = 0; key < 40; key++) {
             x.insert(key, 100 + key, key);
@@ -417,7 +404,7 @@ public final class PromisesTest {
         x.setPace(16, 10);
         x.start(TableChanger.SPLIT, 0);
         for (int lag : NO_COUNTS) {
-            refused(x, "tick, lag wrong", ARGUMENT, () -> x.tick(lag));
+            refused("tick, lag wrong", ARGUMENT, () -> x.tick(lag));
         }
         due("tick at the greatest lag told", x.tick(1000), 0);
         due("mark behind it", x.mark(), 0);
@@ -432,8 +419,8 @@ public final class PromisesTest {
         dueShadow(x, 39, 1, 39, 39);
         due("tick without notes", x.tick(0), 0);
         x.cutOver(0);
-        refused(x, "tick when CUT", STATE, () -> x.tick(0));
-        refused(x, "tick when CUT, over the lag", STATE, () -> x.tick(1000));
+        refused("tick when CUT", STATE, () -> x.tick(0));
+        refused("tick when CUT, over the lag", STATE, () -> x.tick(1000));
     }
 
     private static void promise8TickPlaysNotes() {
@@ -473,23 +460,23 @@ public final class PromisesTest {
 
     private static void promise9CutOver() {
         TableChanger x = new TableChanger();
-        refused(x, "cutOver when IDLE", STATE, () -> x.cutOver(0));
+        refused("cutOver when IDLE", STATE, () -> x.cutOver(0));
         for (int most : NO_COUNTS) {
-            refused(x, "cutOver when IDLE, most wrong", ARGUMENT, () -> x.cutOver(most));
+            refused("cutOver when IDLE, most wrong", ARGUMENT, () -> x.cutOver(most));
         }
         x.setPace(39, 10);
         x.start(TableChanger.NARROW, 10);
-        refused(x, "cutOver at mark 0", STATE, () -> x.cutOver(1000));
+        refused("cutOver at mark 0", STATE, () -> x.cutOver(1000));
         x.tick(0);
-        refused(x, "cutOver at mark 39", STATE, () -> x.cutOver(1000));
+        refused("cutOver at mark 39", STATE, () -> x.cutOver(1000));
         x.tick(0);
         x.insert(1, 1, 10);
         x.insert(2, 2, 11);
         x.rekey(1, 3);
         for (int most : NO_COUNTS) {
-            refused(x, "cutOver, most wrong", ARGUMENT, () -> x.cutOver(most));
+            refused("cutOver, most wrong", ARGUMENT, () -> x.cutOver(most));
         }
-        refused(x, "cutOver with a note more", STATE, () -> x.cutOver(3));
+        refused("cutOver with a note more", STATE, () -> x.cutOver(3));
         due("cutOver", x.cutOver(4), 4);
         due("phase", x.phase(), TableChanger.CUT);
         due("notes", x.notes(), 0);
@@ -497,7 +484,7 @@ public final class PromisesTest {
         dueShadow(x, 3, 1, 10, 0);
         due("refused", x.isRefused(2) && !x.isRefused(1));
         due("behind", x.behind(), 0);
-        refused(x, "cutOver again", STATE, () -> x.cutOver(0));
+        refused("cutOver again", STATE, () -> x.cutOver(0));
         x.undo();
         due("cutOver of nothing", x.cutOver(0), 0);
         x.undo();
@@ -506,9 +493,9 @@ public final class PromisesTest {
 
     private static void promise10Undo() {
         TableChanger x = new TableChanger();
-        refused(x, "undo when IDLE", STATE, x::undo);
+        refused("undo when IDLE", STATE, x::undo);
         x.start(TableChanger.SPLIT, 0);
-        refused(x, "undo when COPYING", STATE, x::undo);
+        refused("undo when COPYING", STATE, x::undo);
         TableChanger y = cut(TableChanger.NARROW, 100);
         y.update(10, 1, 2);
         y.insert(12, 3, 4);
@@ -534,9 +521,9 @@ public final class PromisesTest {
 
     private static void promise11Finish() {
         TableChanger x = new TableChanger();
-        refused(x, "finish when IDLE", STATE, x::finish);
+        refused("finish when IDLE", STATE, x::finish);
         x.start(TableChanger.SPLIT, 0);
-        refused(x, "finish when COPYING", STATE, x::finish);
+        refused("finish when COPYING", STATE, x::finish);
         TableChanger y = cut(TableChanger.NARROW, 100);
         y.insert(0, 1, 1);
         y.insert(39, 2, 2);
@@ -550,7 +537,7 @@ public final class PromisesTest {
         due("no shadow", y.shadowRows(), 0);
         dueNoShadow(y, 10);
         due("sum", y.sum(0), 0);
-        refused(y, "finish again", STATE, y::finish);
+        refused("finish again", STATE, y::finish);
         y.insert(11, 1, 999);
         due("clients write as before", y.row(11), 1999);
         due("finish without a refused row", finishOfSplit(), 0);
@@ -562,7 +549,7 @@ public final class PromisesTest {
 
     private static void promise12GiveUp() {
         TableChanger x = new TableChanger();
-        refused(x, "giveUp when IDLE", STATE, x::giveUp);
+        refused("giveUp when IDLE", STATE, x::giveUp);
         TableChanger y = copied(TableChanger.NARROW, 100);
         y.insert(12, 1, 1);
         y.delete(10);
@@ -575,13 +562,13 @@ public final class PromisesTest {
         due("not refused", !y.isRefused(11));
         due("the old table as it is", y.row(11), 5700);
         due("rows", y.rows(), 2);
-        refused(y, "giveUp again", STATE, y::giveUp);
+        refused("giveUp again", STATE, y::giveUp);
         y.start(TableChanger.SPLIT, 0);
         due("notes do not come again", y.notes(), 0);
         due("nothing is refused in a new change", !y.isRefused(11));
         due("giveUp at once", y.giveUp(), 0);
         TableChanger z = cut(TableChanger.SPLIT, 0);
-        refused(z, "giveUp when CUT", STATE, z::giveUp);
+        refused("giveUp when CUT", STATE, z::giveUp);
     }
 
     // ---- what clients see
@@ -589,7 +576,7 @@ public final class PromisesTest {
     private static void promise13And14WhatClientsSee() {
         TableChanger x = copied(TableChanger.NARROW, 100);
         for (int key : NO_KEYS) {
-            refused(x, "row of no key", INDEX, () -> x.row(key));
+            refused("row of no key", INDEX, () -> x.row(key));
         }
         due("COPYING: the old table, a row that fits", x.row(10), 123045);
         due("COPYING: the old table, a row that does not", x.row(11), 5700);
@@ -645,36 +632,17 @@ public final class PromisesTest {
         due("delete notes a key", x.notes(), 3);
         x.rekey(1, 2);
         due("rekey notes both keys", x.notes(), 5);
-        refused(x, "a call that throws notes nothing", STATE, () -> x.insert(2, 1, 1));
+        refused("a call that throws notes nothing", STATE, () -> x.insert(2, 1, 1));
         due("notes", x.notes(), 5);
-    }
-
-    private static void promise17MostNotesOfAnObject() {
-        TableChanger x = new TableChanger();
-        x.insert(0, 12, 34);
-        x.setPace(40, 0);
-        x.start(TableChanger.SPLIT, 0);
-        x.tick(0);
-        for (int i = 0; i < 505; i++) {
-            x.rekey(i % 2, 1 - i % 2);
-        }
-        due("notes", x.notes(), 1010);
-        refused(x, "cutOver with more than 1000", STATE, () -> x.cutOver(1000));
-        due("tick", x.tick(0), 40);
-        due("notes", x.notes(), 970);
-        refused(x, "cutOver with a note more", STATE, () -> x.cutOver(969));
-        due("cutOver", x.cutOver(970), 970);
-        dueNoShadow(x, 0);
-        dueShadow(x, 1, 0, 12, 34);
     }
 
     private static void promise18And19Shadow() {
         TableChanger x = copied(TableChanger.SPLIT, 0);
         for (int key : NO_KEYS) {
-            refused(x, "shadow of no key", INDEX, () -> x.shadow(key, 0));
+            refused("shadow of no key", INDEX, () -> x.shadow(key, 0));
         }
         for (int column : NO_COLUMNS) {
-            refused(x, "shadow of no column", INDEX, () -> x.shadow(10, column));
+            refused("shadow of no column", INDEX, () -> x.shadow(10, column));
         }
         dueShadow(x, 10, 1, 23, 45);
         dueShadow(x, 11, 0, 5, 700);
@@ -697,7 +665,7 @@ public final class PromisesTest {
     private static void promise20IsRefused() {
         TableChanger x = copied(TableChanger.NARROW, 100);
         for (int key : NO_KEYS) {
-            refused(x, "isRefused of no key", INDEX, () -> x.isRefused(key));
+            refused("isRefused of no key", INDEX, () -> x.isRefused(key));
         }
         due("a row that fits", !x.isRefused(10));
         due("a row that does not", x.isRefused(11));
@@ -765,44 +733,36 @@ public final class PromisesTest {
         x.insert(0, 123, 45);
         x.insert(39, 999, 700);
         for (int column : NO_COLUMNS) {
-            refused(x, "sum of no column", INDEX, () -> x.sum(column));
-            refused(x, "sumAtOnce of no column", INDEX, () -> x.sumAtOnce(column));
+            refused("sum of no column", INDEX, () -> x.sum(column));
+            refused("sumAtOnce of no column", INDEX, () -> x.sumAtOnce(column));
         }
-        dueSums(x, 0, 0, 0, 0);
-        dueSums(x, 1, 0, 0, 0);
+        CHECKS.dueSums(x, 0, 0, 0);
+        CHECKS.dueSumsAtOnce(x, 0, 0, 0);
         x.start(TableChanger.SPLIT, 0);
         for (int column : NO_COLUMNS) {
-            refused(x, "sum of no column, COPYING", INDEX, () -> x.sum(column));
-            refused(x, "sumAtOnce of no column, COPYING", INDEX, () -> x.sumAtOnce(column));
+            refused("sum of no column, COPYING", INDEX, () -> x.sum(column));
+            refused("sumAtOnce of no column, COPYING", INDEX, () -> x.sumAtOnce(column));
         }
-        dueSums(x, 0, 0, 0, 0);
-        dueSums(x, 1, 10, 122, 745);
+        CHECKS.dueSums(x, 0, 0, 0);
+        CHECKS.dueSumsAtOnce(x, 10, 122, 745);
         x.tick(0);
-        dueSums(x, 0, 1, 23, 45);
+        CHECKS.dueSums(x, 1, 23, 45);
         x.delete(0);
-        dueSums(x, 0, 1, 23, 45);
-        dueSums(x, 1, 9, 99, 700);
+        CHECKS.dueSums(x, 1, 23, 45);
+        CHECKS.dueSumsAtOnce(x, 9, 99, 700);
         x.giveUp();
-        dueSums(x, 0, 0, 0, 0);
+        CHECKS.dueSums(x, 0, 0, 0);
         x.insert(1, 3, 500);
         x.setPace(40, 0);
         x.start(TableChanger.NARROW, 500);
-        dueSums(x, 1, 3, 500, 0);
+        CHECKS.dueSumsAtOnce(x, 3, 500, 0);
         x.tick(0);
-        dueSums(x, 0, 3, 500, 0);
+        CHECKS.dueSums(x, 3, 500, 0);
         x.cutOver(0);
         x.update(1, 4, 0);
-        dueSums(x, 0, 4, 0, 0);
-        dueSums(x, 1, 4, 0, 0);
+        CHECKS.dueSums(x, 4, 0, 0);
+        CHECKS.dueSumsAtOnce(x, 4, 0, 0);
         dueGreatestSums();
-    }
-
-    private static void dueSums(TableChanger x, int atOnce, int first, int second, int third) {
-        int[] due = {first, second, third};
-        for (int column = 0; column < 3; column++) {
-            due(atOnce == 1 ? "sumAtOnce(" + column + ")" : "sum(" + column + ")",
-                    atOnce == 1 ? x.sumAtOnce(column) : x.sum(column), due[column]);
-        }
     }
 
     private static void dueGreatestSums() {
@@ -812,9 +772,9 @@ public final class PromisesTest {
         }
         x.setPace(40, 0);
         x.start(TableChanger.SCALE, 999);
-        dueSums(x, 1, 39960, 39920040, 120);
+        CHECKS.dueSumsAtOnce(x, 39960, 39920040, 120);
         x.tick(0);
-        dueSums(x, 0, 39960, 39920040, 120);
+        CHECKS.dueSums(x, 39960, 39920040, 120);
     }
 
     private static void allKeysFromFirstToLast() {
